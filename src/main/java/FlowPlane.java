@@ -790,10 +790,13 @@ public final class FlowPlane {
         }
     }
 
-    /** Piece k goes from corner k to the next one, the last to the first. */
+    /**
+     * Piece k goes from corner k to corner k + 1: behind the last corner the first one stands
+     * again, so that the last piece is as the others.
+     */
     private static final class Fence {
-        final int[] xs = new int[MOST_CORNERS];
-        final int[] ys = new int[MOST_CORNERS];
+        final int[] xs = new int[MOST_CORNERS + 1];
+        final int[] ys = new int[MOST_CORNERS + 1];
         int count = 0;
 
         boolean isLatest(int x, int y) {
@@ -805,38 +808,34 @@ public final class FlowPlane {
                 xs[count] = x;
                 ys[count] = y;
                 count++;
+                xs[count] = xs[0];
+                ys[count] = ys[0];
             }
         }
 
-        int next(int k) {
-            return k + 1 < count ? k + 1 : 0;
-        }
-
         int stepX(int k) {
-            return xs[next(k)] - xs[k];
+            return xs[k + 1] - xs[k];
         }
 
         int stepY(int k) {
-            return ys[next(k)] - ys[k];
+            return ys[k + 1] - ys[k];
         }
 
         /** Above 0 where the place is to the left of piece k, 0 where it is in line with it. */
         int leftOf(int k, int x, int y) {
-            return stepX(k) * (y - ys[k]) - stepY(k) * (x - xs[k]);
+            return (xs[k + 1] - xs[k]) * (y - ys[k]) - (ys[k + 1] - ys[k]) * (x - xs[k]);
         }
 
         boolean isOn(int k, int x, int y) {
-            int n = next(k);
             return leftOf(k, x, y) == 0
-                    && x >= Math.min(xs[k], xs[n]) && x <= Math.max(xs[k], xs[n])
-                    && y >= Math.min(ys[k], ys[n]) && y <= Math.max(ys[k], ys[n]);
+                    && x >= Math.min(xs[k], xs[k + 1]) && x <= Math.max(xs[k], xs[k + 1])
+                    && y >= Math.min(ys[k], ys[k + 1]) && y <= Math.max(ys[k], ys[k + 1]);
         }
 
         int doubleArea() {
             int sum = 0;
             for (int k = 0; k < count; k++) {
-                int n = next(k);
-                sum += xs[k] * ys[n] - ys[k] * xs[n];
+                sum += xs[k] * ys[k + 1] - ys[k] * xs[k + 1];
             }
             return sum;
         }
@@ -865,39 +864,30 @@ public final class FlowPlane {
 
         /** Whether two pieces, i before k, share a place that they may not. */
         boolean clash(int i, int k) {
-            if (next(i) == k && foldsBack(i)) {
-                return true;
+            if (k == i + 1) {
+                return foldsBack(i, k);
             }
-            if (next(k) == i && foldsBack(k)) {
-                return true;
+            if (i == 0 && k == count - 1) {
+                return foldsBack(k, i);
             }
-            boolean neighbours = next(i) == k || next(k) == i;
-            return !neighbours && meet(i, k);
-        }
-
-        /** Whether piece k and the next one share more than the corner between them. */
-        boolean foldsBack(int k) {
-            int n = next(k);
-            int end = next(n);
-            return isOn(k, xs[end], ys[end]) || isOn(n, xs[k], ys[k]);
-        }
-
-        boolean meet(int i, int k) {
             return (parts(i, k) && parts(k, i)) || touches(i, k) || touches(k, i);
+        }
+
+        /** Whether a piece and the one that follows it share more than the corner between them. */
+        boolean foldsBack(int first, int second) {
+            return isOn(first, xs[second + 1], ys[second + 1]) || isOn(second, xs[first], ys[first]);
         }
 
         /** Whether the ends of piece k are on different sides of the line of piece i, neither on it. */
         boolean parts(int i, int k) {
-            int n = next(k);
-            int start = Integer.signum(leftOf(i, xs[k], ys[k]));
-            int end = Integer.signum(leftOf(i, xs[n], ys[n]));
-            return start * end < 0;
+            int start = leftOf(i, xs[k], ys[k]);
+            int end = leftOf(i, xs[k + 1], ys[k + 1]);
+            return (start < 0 && end > 0) || (start > 0 && end < 0);
         }
 
         /** Whether an end of piece k is on piece i. */
         boolean touches(int i, int k) {
-            int n = next(k);
-            return isOn(i, xs[k], ys[k]) || isOn(i, xs[n], ys[n]);
+            return isOn(i, xs[k], ys[k]) || isOn(i, xs[k + 1], ys[k + 1]);
         }
 
         int whereIs(int x, int y) {
@@ -913,10 +903,10 @@ public final class FlowPlane {
             return inside ? INSIDE : OUTSIDE;
         }
 
-        /** A piece has its lower end here but not its upper one, so that a corner is passed once or twice, as it should. */
+        /** A piece has its lower end here but not its upper one, so that a corner is passed as often as it should. */
         boolean passesRightOf(int k, int x, int y) {
             int from = ys[k];
-            int to = ys[next(k)];
+            int to = ys[k + 1];
             if (from <= y && y < to) {
                 return leftOf(k, x, y) > 0;
             }
@@ -1162,9 +1152,10 @@ public final class FlowPlane {
 
     /** The latest states before an act, in a ring: the oldest makes room. */
     private static final class Past {
-        static final int FENCE_AT = 2 * NUMBERS;
-        static final int CORNERS_AT = FENCE_AT + 1;
-        final int[][] rows = new int[MOST_UNDONE][CORNERS_AT + 2 * MOST_CORNERS];
+        static final int COUNT_AT = 2 * NUMBERS;
+        static final int XS_AT = COUNT_AT + 1;
+        static final int YS_AT = XS_AT + MOST_CORNERS + 1;
+        final int[][] rows = new int[MOST_UNDONE][YS_AT + MOST_CORNERS + 1];
         int count = 0;
         int latest = MOST_UNDONE - 1;
 
@@ -1174,9 +1165,9 @@ public final class FlowPlane {
             int[] row = rows[latest];
             System.arraycopy(flow.p.numbers, 0, row, 0, NUMBERS);
             System.arraycopy(flow.q.numbers, 0, row, NUMBERS, NUMBERS);
-            row[FENCE_AT] = fence.count;
-            System.arraycopy(fence.xs, 0, row, CORNERS_AT, MOST_CORNERS);
-            System.arraycopy(fence.ys, 0, row, CORNERS_AT + MOST_CORNERS, MOST_CORNERS);
+            row[COUNT_AT] = fence.count;
+            System.arraycopy(fence.xs, 0, row, XS_AT, MOST_CORNERS + 1);
+            System.arraycopy(fence.ys, 0, row, YS_AT, MOST_CORNERS + 1);
         }
 
         void bringBack(Flow flow, Fence fence) {
@@ -1186,9 +1177,9 @@ public final class FlowPlane {
             int[] row = rows[latest];
             System.arraycopy(row, 0, flow.p.numbers, 0, NUMBERS);
             System.arraycopy(row, NUMBERS, flow.q.numbers, 0, NUMBERS);
-            fence.count = row[FENCE_AT];
-            System.arraycopy(row, CORNERS_AT, fence.xs, 0, MOST_CORNERS);
-            System.arraycopy(row, CORNERS_AT + MOST_CORNERS, fence.ys, 0, MOST_CORNERS);
+            fence.count = row[COUNT_AT];
+            System.arraycopy(row, XS_AT, fence.xs, 0, MOST_CORNERS + 1);
+            System.arraycopy(row, YS_AT, fence.ys, 0, MOST_CORNERS + 1);
             latest = latest > 0 ? latest - 1 : MOST_UNDONE - 1;
             count--;
         }
