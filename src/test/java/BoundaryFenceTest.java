@@ -23,6 +23,7 @@ public final class BoundaryFenceTest {
         piecesRefused();
         held();
         wind();
+        windOfSquares();
         windRefused();
         indexes();
         S.end(15, 24);
@@ -163,6 +164,28 @@ public final class BoundaryFenceTest {
         int[] step = {-4, -4, 4, -4, 4, 4, 2, 4, 2, 0, -4, 0};
         dueWithin("0011111112100", 0, step);
         dueWithin("0000000012100", 1, step);
+        // In line with a piece, but before its start or behind its end: upward, downward, flat and slanting.
+        int[] crooked = {0, 0, 2, -2, 4, -2, 4, 0, 2, 4, 0, 4, -2, 6, -2, 2};
+        dueWithin("0000110000000", 2, -2, 2, -1, 2, -2, 3);
+        S.anew();
+        S.fence(crooked);
+        S.due("simple(true)", 1);
+        S.due("within(4, 1)", 0);
+        S.due("within(4, -3)", 0);
+        S.due("within(-2, 1)", 0);
+        S.due("within(-2, 6)", 1);
+        S.due("within(5, -2)", 0);
+        S.due("within(1, -2)", 0);
+        S.due("within(-1, 4)", 2);
+        S.due("within(3, 4)", 0);
+        S.due("within(3, -3)", 0);
+        S.due("within(-1, 1)", 1);
+        S.due("within(1, 1)", 2);
+        // As near to a slanting piece as a place can be, on either side, whichever way it goes.
+        dueNear(2, 0, -6, -6, 6, -6, 6, 5);
+        dueNear(2, 0, 6, 5, 6, -6, -6, -6);
+        dueNear(0, 2, -6, -6, 6, 5, -6, 5);
+        dueNear(0, 2, -6, 5, 6, 5, -6, -6);
         S.of(19, "BEYOND: it is no PLACE.");
         S.furnish();
         S.refusedWith("within(#, 0)", Check.BEYOND, Sentences.outside(-6, 6));
@@ -178,6 +201,23 @@ public final class BoundaryFenceTest {
         S.refused("within(1, 0)", Check.KIND);
         S.fence(SQUARE_WITH_THE_CLOCK);
         S.due("within(0, 0)", 2);
+    }
+
+    /** (5, 4) is just below the line from (-6, -6) to (6, 5), (-5, -5) just above it. */
+    private static void dueNear(int below, int above, int... places) {
+        S.anew();
+        S.fence(places);
+        S.due("within(5, 4)", below);
+        S.due("within(-5, -5)", above);
+        // The same, seen in a mirror.
+        int[] seen = places.clone();
+        for (int i = 0; i < seen.length; i += 2) {
+            seen[i] = -seen[i];
+        }
+        S.anew();
+        S.fence(seen);
+        S.due("within(-5, 4)", below);
+        S.due("within(5, -5)", above);
     }
 
     /** What goes across the first piece of a fence with these two ends. */
@@ -213,6 +253,21 @@ public final class BoundaryFenceTest {
         dueAcross(0, 2, Q_XX_LESS_2, -2, 0, 2, 0);
         dueAcross(-1, 0, Q_XX_LESS_2, -1, 0, 1, 0);
         dueAcross(1, 0, Q_XX_LESS_2, 2, 0, 6, 0);
+        // By (2, 2), where P and Q both have squares: 2 x x + 2 y - 2 x y is 4 t above 0 behind its start.
+        dueAcross(0, 1, new int[] {0, 0, 0, 0, 1, 0, 0, 0, 1, 1}, 0, 0, 2, 2);
+        dueAcross(1, 0, new int[] {0, 0, 0, 0, 1, 0, 1, 0, 1, 1}, 0, 0, 2, 2);
+        dueAcross(-1, 0, new int[] {1, 0, 0, 0, 1, 0, 0, 0, -1, 1}, 0, 0, 2, 2);
+        // Nowhere 0, though it turns between the ends or behind them.
+        int[][] neverZero = {{1, 0, 0, 1}, {1, 1, 0, 1}, {1, -1, 0, 1}, {1, -3, 0, 4}, {4, 3, 0, 1}, {2, 0, 0, 4}, {4, 0, 0, 1}};
+        for (int[] n : neverZero) {
+            int[] q = {0, 0, 0, 0, 0, 0, n[0], n[1], 0, n[3]};
+            int[] less = {0, 0, 0, 0, 0, 0, -n[0], -n[1], 0, -n[3]};
+            for (int x = -6; x < 6; x += 3) {
+                dueAcross(1, 0, q, x, 1, x + 3, 1);
+                dueAcross(-1, 0, less, x, 1, x + 3, 1);
+                dueAcross(-1, 0, q, 6, 1, x, 1);
+            }
+        }
     }
 
     private static void turns() {
@@ -229,7 +284,17 @@ public final class BoundaryFenceTest {
         // 0 at a half, where it only touches; 0 at a third and at a half.
         dueAcross(0, 1, new int[] {0, 0, 0, 0, 0, 0, 1, -4, 0, 4}, 0, 0, 1, 0);
         dueAcross(0, 2, new int[] {-1, 2, 0, 0, 0, 0, -1, 3, 0, -2}, 0, 0, 1, 0);
+        // Twice between the same two places, or once each, near either end.
+        dueAcross(0, 2, new int[] {0, 0, 0, 0, 0, 0, 1, -4, 0, 3}, 0, 0, 1, 0);
+        dueAcross(0, 2, new int[] {0, 0, 0, 0, 0, 0, 1, 4, 0, 3}, -1, 0, 0, 0);
+        dueAcross(0, 2, new int[] {0, 0, 0, 0, 0, 0, -1, 4, 0, -3}, 1, 0, 0, 0);
+        dueAcross(0, 1, new int[] {0, 0, 0, 0, 0, 0, 1, -4, 0, 2}, 0, 0, 1, 0);
+        dueAcross(0, 1, new int[] {0, 0, 0, 0, 0, 0, 1, -4, 0, 2}, 1, 0, 2, 0);
+        dueAcross(1, 0, new int[] {0, 0, 0, 0, 0, 0, 1, -4, 0, 2}, 2, 0, 3, 0);
+        dueAcross(1, 0, new int[] {0, 0, 0, 0, 0, 0, 1, -4, 0, 2}, -1, 0, 0, 0);
         S.of(21, "(3: everywhere).");
+        dueAcross(0, 3, new int[] {0, 0, 0, 1, 0, 0, 0, 0, 0, 1}, 0, 0, 2, 2);
+        dueAcross(0, 3, new int[] {0, 0, 0, 0, 1, 0, 0, 0, 0, 0, 0, 1}, 3, 3, -4, -4);
         dueAcross(0, 3, new int[] {0}, 0, 0, 4, 4);
         dueAcross(0, 3, new int[] {1, 2, 3}, -6, 1, 6, 1);
         dueAcross(0, 3, new int[] {1, 2, 3, 0, 0, 0, 1, 2, 3}, 0, 0, 4, 4);
@@ -328,6 +393,51 @@ public final class BoundaryFenceTest {
         dueWind(0, SOURCE, 2, 0, 1, -2, 3, -2);
         dueWind(0, new int[] {1, 0, 0, 0, 0, 0, 0, 0, 0, -1}, -1, 1, 1, 1, 0, 3);
         dueWind(0, new int[] {1, 0, 0, 0, 0, 0, 0, 0, 0, 1}, -1, 1, 1, 1, 0, 3);
+        // At (0, 0) one piece only touches that line, the other goes through it: Q = x x + y, and less that.
+        for (int sign = -1; sign <= 1; sign += 2) {
+            int[] flow = {1, 0, 0, 0, 0, 0, 0, 0, sign, sign};
+            dueWind(0, flow, 0, 0, 2, 0, 0, 3);
+            dueWind(0, flow, 0, 0, 0, 3, 2, 0);
+            dueWind(0, flow, 0, 0, -2, 0, 0, -3);
+            dueWind(0, flow, 0, 0, 0, -3, 2, 0);
+        }
+    }
+
+    /** Four rests at (+-2, +-1), each within a fence of its own: an arrow of squares, across slanting pieces. */
+    private static void windOfSquares() {
+        int[] four = {-4, 0, 0, 1, 0, 0, -1, 0, 0, 0, 0, 1};
+        S.of(23, "WIND.");
+        for (int x = -2; x <= 2; x += 4) {
+            for (int y = -1; y <= 1; y += 2) {
+                int index = x * y > 0 ? 1 : -1;
+                dueWind(index, four, x - 1, y - 1, x + 1, y - 1, x + 1, y + 1, x - 1, y + 1);
+                dueWind(-index, four, x - 1, y - 1, x - 1, y + 1, x + 1, y + 1, x + 1, y - 1);
+                dueWind(index, four, x + 1, y, x, y + 1, x - 1, y, x, y - 1);
+                dueWind(index, four, x - 1, y - 1, x + 2, y, x - 1, y + 1);
+                dueWind(-index, four, x + 2, y - 1, x - 1, y, x + 2, y + 2);
+                dueWind(index, four, x, y + 1, x - 2, y - 1, x + 2, y - 1);
+            }
+        }
+        dueWind(0, four, -6, -5, 6, -4, 5, 6, -6, 5);
+        dueWind(0, four, 0, -3, 4, -2, 3, 4, 1, 3);
+        dueWind(0, four, -1, -3, 1, -3, 1, 3, -1, 3);
+        // Two turns around (1, -1): P = (x - 1) (x - 1) - (y + 1) (y + 1), Q = 2 (x - 1) (y + 1), turned and mirrored.
+        int[] twice = {0, -2, -2, 1, 0, -1, -2, 2, -2, 0, 2};
+        int[] around = {-2, -3, 4, -2, 3, 1, -1, 2};
+        dueWind(2, twice, around);
+        dueWind(2, twice, 1, -2, 2, -1, 1, 0, 0, -1);
+        dueWind(-2, twice, -1, 2, 3, 1, 4, -2, -2, -3);
+        dueWind(0, twice, 2, -1, 5, 1, 3, 4);
+        // A fence around all the places to which a quarter or a mirror brings the rest.
+        S.anew();
+        S.flow(twice);
+        S.fence(-3, -4, 4, -3, 3, 4, -4, 2);
+        String[] acts = {"quarter()", "quarter()", "quarter()", "quarter()", "mirror()", "back()", "quarter()"};
+        for (String act : acts) {
+            S.due("wind()", 2);
+            S.make(act);
+        }
+        S.due("wind()", 2);
     }
 
     private static void windRefused() {

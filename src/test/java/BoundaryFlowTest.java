@@ -63,6 +63,15 @@ public final class BoundaryFlowTest {
             S.due("put" + at + ", 0)", 4);
             S.dueFlow();
         }
+        // It goes by the flow at hand, also where the latest act was refused or undone.
+        S.anew();
+        S.make("put(false, 1, 1)");
+        S.make("put(true, 1, 2)");
+        S.make("undo()");
+        S.due("put(false, 0, 3)", 0);
+        S.due("move(6, 0)", Check.SIZE);
+        S.due("put(true, 0, 3)", 0);
+        S.dueFlow(3, 1, 0, 0, 0, 0, 3);
         S.of(2, "BEYOND: m is not 0 to 5");
         S.furnish();
         S.refusedWith("put(false, #, 1)", Check.BEYOND, Sentences.outside(0, 5));
@@ -176,6 +185,16 @@ public final class BoundaryFlowTest {
         S.dueFlow(-2, 3, 0, 1, 0, 0, 2, 2, 0, 0, 1, 0);
         S.due("move(-1, -2)", 1);
         S.dueFlow(-4, 1, 0, 1, 0, 0, 2, 0, -1, 0, 1, 0);
+        // It goes by the flow at hand, also where the latest act was refused or undone.
+        S.anew();
+        S.flow(0, 1, 0, 0, 0, 0, 0, 0, 0, 0, 1);
+        S.make("put(false, 3, 4)");
+        S.make("undo()");
+        S.due("move(1, 1)", 1);
+        S.dueFlow(1, 1, 0, 0, 0, 0, 1, 1, 1, 0, 1);
+        S.due("move(6, 6)", Check.SIZE);
+        S.due("move(1, 0)", 1);
+        S.dueFlow(2, 1, 0, 0, 0, 0, 2, 1, 2, 0, 1);
         S.of(9, "BEYOND: (a, b) is no PLACE.");
         S.furnish();
         S.refusedWith("move(#, 0)", Check.BEYOND, Sentences.outside(-6, 6));
@@ -236,6 +255,13 @@ public final class BoundaryFlowTest {
         S.due("add(3, 4)", 1);
         S.dueFlow(4, 0, -4, 0, 4, 0, 0, 4, 0, -4, 0, 4);
         S.due("as(3, 0)", 6);
+        // It goes by the flow at hand, also where the latest act was refused or undone.
+        S.due("undo()", 15);
+        S.due("add(3, 1)", 1);
+        S.dueFlow(1, 0, -1, 0, 1, 0, 0, 1, 0, -1, 0, 1);
+        S.due("add(3, 4)", Check.SIZE);
+        S.due("add(3, 1)", 1);
+        S.dueFlow(2, 0, -2, 0, 2, 0, 0, 2, 0, -2, 0, 2);
         S.of(10, "BEYOND: no such slot");
         S.furnish();
         S.refusedWith("add(#, 0)", Check.BEYOND, Sentences.outside(0, 3));

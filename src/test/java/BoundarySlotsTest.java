@@ -427,6 +427,7 @@ public final class BoundarySlotsTest {
         dueUndone("open()", 1, 1, -2, 0, 0, 1, 0, 0, 1);
         dueUndone("bring(1)", 3, 0, 0, 2);
         dueUndone("lay(0)", 2, 0, 3);
+        dueFenceUndone();
         // Slots and sheets are no part of it.
         S.anew();
         S.make("put(true, 3, 2)");
@@ -449,6 +450,33 @@ public final class BoundarySlotsTest {
         S.due("undo()", 0);
         S.dueFlow();
         S.due("told(3)", refused.length);
+    }
+
+    /** A full fence comes back corner by corner, though others stood in its place. */
+    private static void dueFenceUndone() {
+        S.anew();
+        S.flow(0, 1, 2, 0, 0, 0, 3, 0, -1);
+        S.fence(-5, -4, 4, -6, 6, 3, 5, 5, 1, 2, -2, 6, -6, 5, -4, 1);
+        S.due("simple(true)", 1);
+        int area = S.make("area()");
+        int wind = S.make("wind()");
+        int[] across = new int[8];
+        for (int k = 0; k < 8; k++) {
+            across[k] = S.make("across(" + k + ")");
+        }
+        S.fence(1, 1, 2, 2, 3, 3, 4, 4, 5, 5, 6, 6, 0, 6, 0, 1);
+        for (int i = 0; i < 9; i++) {
+            S.make("undo()");
+        }
+        S.due("told(0)", 8);
+        S.due("simple(true)", 1);
+        S.due("area()", area);
+        S.due("wind()", wind);
+        for (int k = 0; k < 8; k++) {
+            S.due("across(" + k + ")", across[k]);
+        }
+        S.refused("corner(-4, 1)", Check.SIZE);
+        S.refused("corner(-4, 2)", Check.FULL);
     }
 
     private static void undoAtItsEnds() {

@@ -79,11 +79,11 @@ public final class BoundarySumsTest {
     private static void kept() {
         S.of(27, "How many SUMS that are KEPT there are, of which none is made of others (by fractions): 0 to 5.");
         S.due("kept()", 5);
-        // x alone changes: y and y y are kept; and so with x for y, and with x - y, 2 x - 3 y for it.
+        // x alone changes: y and y y are kept; and so with x for y, and with x - y, x - 3 y for it.
         dueKept(2, 1);
         dueKept(2, 0, 0, 0, 0, 0, 0, 4, -4, 4, -4, 4, -4);
         dueKept(2, 3, 1, -2, 4, 4, -1, 3, 1, -2, 4, 4, -1);
-        dueKept(2, 3, 0, -3, 0, 0, 3, 2, 0, -2, 0, 0, 2);
+        dueKept(2, 3, 0, -3, 0, 0, 3, 1, 0, -1, 0, 0, 1);
         // x x + y y; x y; 3 x x - 2 y y; x - y y, which is none by squares alone.
         dueKept(1, 0, 0, -1, 0, 0, 0, 0, 1);
         dueKept(1, 0, 1, 0, 0, 0, 0, 0, 0, -1);
@@ -94,6 +94,13 @@ public final class BoundarySumsTest {
         dueKept(0, 0, 0, -1, 0, -2, -3, 0, 1, 0, 2, 4);
         dueKept(0, 0, 1, 0, 0, 0, 0, 0, 0, 1);
         dueKept(0, ALL_4_BUT_ONE);
+        // What was asked before does not count.
+        S.anew();
+        S.flow(0, 0, 0, 0, 0, 1);
+        S.due("along(0, 0, 0, 9, 0, 9)", 9);
+        S.flow(0, 0, 0, 0, 0, 0, 1);
+        S.due("kept()", 2);
+        S.due("kept()", 2);
     }
 
     private static final int[] ALL_4_BUT_ONE = {4, 4, 4, 4, 4, 4, 4, 4, 4, 4, 4, 3};
@@ -119,6 +126,14 @@ public final class BoundarySumsTest {
         int[] less = {0, 0, 0, 0, -1, 0, 0, 0, 0, 0, 1};
         dueNone(0, "-1, -1, 1, 1", both);
         dueNone(0, "-1, -1, 1, 1", less);
+        // Of another sign at one corner of the four alone, whichever: x + y, x - y and y - x.
+        int[] swapped = {0, 0, 0, 0, 1, 0, 0, 0, 0, 0, -1};
+        dueNone(0, "-2, 1, 3, 4", both);
+        dueNone(0, "-4, -3, 2, -1", both);
+        dueNone(0, "1, -4, 3, 2", less);
+        dueNone(0, "-3, -1, 0, 2", less);
+        dueNone(0, "0, 1, 2, 4", swapped);
+        dueNone(0, "0, -1, 2, 1", swapped);
         S.of(28, "(0 may be in it, but not everywhere): 1 above, -1 below, 0 else.");
         dueNone(0, "-6, -6, 6, 6");
         dueNone(0, "-6, -6, 6, 6", 0, 3, 0, 0, 0, 0, 0, 0, -3);
@@ -209,6 +224,14 @@ public final class BoundarySumsTest {
             S.due("far(" + k + ", 0)", 0);
             S.due("far(" + k + ", " + (k - Integer.signum(k)) + ")", 0);
         }
+        // P2 = x x + 2 x y, Q2 = x y + 2 y y: x Q2 and y P2 are the same.
+        S.anew();
+        S.flow(0, 0, 0, 1, 2, 0, 0, 0, 0, 0, 1, 2);
+        S.due("far(1, 1)", 1);
+        S.due("far(-5, 6)", 1);
+        S.make("put(true, 5, 1)");
+        S.due("far(1, 1)", 0);
+        S.due("far(1, 0)", 1);
         form(0, 0, 0, 4);
         S.due("far(6, 0)", 1);
         S.due("far(-6, 1)", 0);

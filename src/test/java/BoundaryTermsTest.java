@@ -304,6 +304,7 @@ public final class BoundaryTermsTest {
         dueSimple(0, -2, -2, 2, 2, 2, -2, -2, 2);
         dueSimple(0, 0, 0, 3, 0, 3, 3, 1, -1);
         dueSimple(0, -6, -6, 6, 5, 6, 6, -5, -6);
+        dueCrossingByAHair();
         dueSimple(0, 0, 0, 4, 0, 4, 4, 2, 0, 0, 4);
         dueSimple(0, 2, 0, 0, 4, 0, 0, 4, 0, 4, 4);
         dueSimple(0, 0, 0, 6, 0, 6, 3, 4, 3, 4, 0, 2, 0, 2, 3, 0, 3);
@@ -312,6 +313,23 @@ public final class BoundaryTermsTest {
         dueSimple(1, 0, 0, 4, 0, 4, 4, 2, 1, 0, 4);
         dueSimple(1, 0, 0, 2, 0, 2, 2, 4, 2, 4, 0, 6, 0, 6, 4, 0, 4);
         dueSimple(1, -6, -6, 6, 5, 6, 6, -6, -5);
+    }
+
+    /** From (-5, -5) to (5, 4) a piece crosses that from (-6, -6) to (6, 5) as narrowly as whole places can. */
+    private static void dueCrossingByAHair() {
+        int[] fence = {-6, -6, 6, 5, 6, 6, -6, 6, -5, -5, 5, 4, 5, -6};
+        int n = fence.length / 2;
+        for (int way = 0; way < 4; way++) {
+            int[] turned = new int[fence.length];
+            for (int i = 0; i < n; i++) {
+                int from = way < 2 ? i : n - 1 - i;
+                turned[2 * i] = (way % 2 == 0 ? 1 : -1) * fence[2 * from];
+                turned[2 * i + 1] = fence[2 * from + 1];
+            }
+            dueSimple(0, turned);
+        }
+        // So near, but not across.
+        dueSimple(1, -6, -6, 6, 5, 6, 6, -5, -5);
     }
 
     private static void neighbours() {
@@ -329,6 +347,7 @@ public final class BoundaryTermsTest {
         dueSimple(0, 0, 0, 6, 0, 4, 4, 4, 0);
         dueSimple(0, 0, 0, 1, 0, 3, 0);
         dueSimple(0, 0, 0, 3, 3, 1, 1);
+        dueSimple(0, 1, 0, 3, 0, 0, 0);
     }
 
     private static void left() {
@@ -469,6 +488,14 @@ public final class BoundaryTermsTest {
         dueKind(0, 1, 2, 3, 1, 2, 3, 4, -4, -1, 4, -2, -1);
         dueKind(0, 1, 2, 3, 1, 2, 3, 4, -4, -2, 4, -1, -1);
         dueKind(0, 1, 2, 3, 1, 2, 3, 4, -4, -2, 4, -2, -2);
+        // 0 at some places only: SPREAD s + u x + v y with any of these not 0.
+        for (int i = 0; i < 27; i++) {
+            int s = i % 3 - 1;
+            int u = i / 3 % 3 - 1;
+            int v = i / 9 - 1;
+            boolean squares = u != 0 || v != 0;
+            dueKind(squares ? 0 : s != 0 ? 2 : 3, 0, s, 0, 0, v, 0, 0, 0, 0, 0, u);
+        }
         S.of(TERMS, "the last of these that it is.");
         // FREE and LINEAR, FREE and CENTRAL, nothing at all; CENTRAL and so LINEAR and so FLOW.
         dueKind(3, 1, 2, 0, 0, 0, 0, 0, 0, -2);
